@@ -99,6 +99,9 @@ public final class FillTest {
         CHECK.due("known stays", 3, x.place(2, 0));
         CHECK.due("forgotten already", 0, x.forget());
         CHECK.due("filled anew", 2, x.fill(2, 3));
+        RubbingMirrors y = Rows.of(-1, 2, 3, -1);
+        y.fill(1, -1);
+        CHECK.due("guesses at both ends", 2, y.forget());
     }
 
     private static void wrongInputs() {
