@@ -23,6 +23,9 @@ final class Model {
     final List<int[]> shapes = new ArrayList<>();
     final List<int[]> rules = new ArrayList<>();
 
+    /** A kind alone, or a question with its two nodes. */
+    final List<int[]> nodes = new ArrayList<>();
+
     Model(int n) {
         depths = new int[n];
         Arrays.fill(depths, -1);
@@ -130,6 +133,18 @@ final class Model {
             }
         }
         return count;
+    }
+
+    /** Asked from a node on; there must be such a node. */
+    int ask(int node, int bits, int known) {
+        int[] at = nodes.get(node);
+        if (at.length == 1) {
+            return at[0];
+        }
+        if (known / (1 << at[0]) % 2 == 0) {
+            return -2 - at[0];
+        }
+        return ask(bits / (1 << at[0]) % 2 == 0 ? at[1] : at[2], bits, known);
     }
 
     /** Begin and end; nothing if there is no age. */

@@ -39,11 +39,12 @@ public final class ModelTest {
             compareFits();
             compareSums();
             compareRow();
+            compareKey();
         }
     }
 
     private void change() {
-        switch (random.nextInt(6)) {
+        switch (random.nextInt(7)) {
             case 0 -> tellDepth(random.nextInt(n));
             case 1 -> {
                 int step = random.nextInt(n);
@@ -53,6 +54,7 @@ public final class ModelTest {
             case 2 -> CHECK.due("forget", model.forget(), x.forget());
             case 3 -> tellShape();
             case 4 -> tellRule();
+            case 5 -> tellNode();
             default -> tellDepth(random.nextInt(n));
         }
     }
@@ -86,6 +88,17 @@ public final class ModelTest {
             int until = year + random.nextInt(10001 - year);
             model.rules.add(new int[] {from, to, least, greatest, year, until});
             CHECK.due("rule", model.rules.size(), x.rule(from, to, least, greatest, year, until));
+        }
+    }
+
+    private void tellNode() {
+        int count = model.nodes.size();
+        if (count < 16) {
+            boolean isKind = count == 0 || random.nextInt(3) == 0;
+            int[] node = isKind ? new int[] {random.nextInt(1001)}
+                : new int[] {random.nextInt(16), random.nextInt(count), random.nextInt(count)};
+            CHECK.due("node", count, isKind ? x.kind(node[0]) : x.question(node[0], node[1], node[2]));
+            model.nodes.add(node);
         }
     }
 
@@ -123,5 +136,13 @@ public final class ModelTest {
         int k = random.nextInt(n);
         CHECK.due("depth " + k, model.depths[k], x.place(k, 0));
         CHECK.due("guess " + k, model.guesses[k] ? 1 : 0, x.place(k, 1));
+    }
+
+    private void compareKey() {
+        int latest = model.nodes.size() - 1;
+        int bits = random.nextInt(65536);
+        int known = random.nextInt(65536) | random.nextInt(65536);
+        CHECK.due("ask " + bits + " " + known, latest < 0 ? NOTHING : model.ask(latest, bits, known),
+            answer(() -> x.ask(bits, known)));
     }
 }
