@@ -4,8 +4,9 @@ import java.util.function.Predicate;
 import java.util.function.Supplier;
 
 /**
- * "A call that throws changes nothing; of several exceptions the one named first is thrown": every call with
- * every mixture of right and wrong numbers, in rooms that are empty, begun and full.
+ * "of several exceptions the one named first is thrown": every call with every mixture of right and wrong
+ * numbers, in rooms that are empty, begun and full. Of what a refused call must leave alone only the counts are
+ * looked at here, as there are so many mixtures; the other tests look at all that can be seen.
  */
 public final class RefusalTest {
     private static final Check CHECK = new Check();
