@@ -186,7 +186,7 @@ public final class RubbingMirrors {
         if (nodes.isEmpty()) {
             throw new IllegalStateException("there are no nodes");
         }
-        Node end = nodes.get(lastAsked(bits, known));
+        Node end = lastAsked(bits, known);
         return end.isQuestion() ? -2 - end.asked : end.named;
     }
 
@@ -263,12 +263,16 @@ public final class RubbingMirrors {
         }
     }
 
-    /** The number of the node where asking ends; there must be a node. */
-    private int lastAsked(int bits, int known) {
-        int at = nodes.size() - 1;
-        // A question leads only to nodes told before it, so so many steps are always enough.
-        for (int steps = 0; steps < MOST_NODES && nodes.get(at).isAnsweredBy(known); steps++) {
-            at = nodes.get(at).nextBy(bits);
+    /** The node where asking ends; there must be a node. */
+    private Node lastAsked(int bits, int known) {
+        int latest = nodes.size() - 1;
+        Node at = nodes.get(latest);
+        // A question leads only to nodes told before it, so this many steps are always enough.
+        for (int steps = 0; steps < MOST_NODES && at.isAnsweredBy(known); steps++) {
+            int next = at.nextBy(bits);
+            if (isWithin(next, 0, latest)) {
+                at = nodes.get(next);
+            }
         }
         return at;
     }
